@@ -339,11 +339,13 @@ public final class PloughDepot {
         if (odds > MOST_ODD || town.hasOneWay() || bits < 0 || bits >= 1 << odds) {
             return refuse(BAD);
         }
+        ways.learnAll();
         int together = maker.leastOf(bits);
         return together >= FAR ? refuse(NO) : answer(together);
     }
 
     public int round() {
+        ways.learnAll();
         int made = town.hasOneWay() ? maker.makeByNearest() : maker.makeByPairs();
         if (made < 0) {
             return refuse(made);
@@ -597,8 +599,8 @@ public final class PloughDepot {
         if (wholeS <= 0L) {
             return 0;
         }
-        float rest = (float) ((long) (float) t % wholeS) / 8f;
-        float whole = ((float) t / 8f - rest) / ((float) s / 8f);
+        long wholeRest = (long) (float) t % wholeS;
+        float whole = ((float) t / 8f - (float) wholeRest / 8f) / ((float) s / 8f);
         return Math.min(MOST_DRIFT, (int) whole);
     }
 
@@ -769,11 +771,11 @@ public final class PloughDepot {
         }
 
         int get(int row, int column) {
-            return hasCell(row, column) ? cells[row * columns + column] : 0;
+            return row >= 0 && row < rows && column >= 0 && column < columns ? cells[row * columns + column] : 0;
         }
 
         void set(int row, int column, int value) {
-            if (hasCell(row, column)) {
+            if (row >= 0 && row < rows && column >= 0 && column < columns) {
                 cells[row * columns + column] = value;
             }
         }
@@ -1169,8 +1171,8 @@ public final class PloughDepot {
             known[to] = true;
             Arrays.fill(least[to], FAR);
             least[to][to] = 0;
-            for (int i = 0; i < MOST_CROSSINGS; i++) {
-                settled[i] = false;
+            for (int crossing = 0; crossing < town.crossings; crossing++) {
+                settled[crossing] = false;
             }
             for (int n = 0; n < town.crossings; n++) {
                 int nearest = nearestUnsettled(least[to]);
@@ -1264,7 +1266,7 @@ public final class PloughDepot {
         }
     }
 
-    /** Makes a round by the map as it is, as a draft: what is refused must leave the round that was. */
+    /** Makes a round, by ways that were learnt before, as a draft: what is refused must leave the round that was. */
     private static final class RoundMaker {
         static final int BY_PAIRS = 1, BY_NEAREST = 2;
 
@@ -1296,7 +1298,6 @@ public final class PloughDepot {
         }
 
         private void begin(int how) {
-            ways.learnAll();
             Arrays.fill(clearings, 0);
             draft.begin(how);
         }
@@ -1349,7 +1350,7 @@ public final class PloughDepot {
 
         /** Marks the ends of streets left to be driven that are not reached: whether there are such. */
         private boolean markStrays() {
-            for (int crossing = 0; crossing < MOST_CROSSINGS; crossing++) {
+            for (int crossing = 0; crossing < town.crossings; crossing++) {
                 stray[crossing] = false;
             }
             boolean some = false;
@@ -1398,7 +1399,7 @@ public final class PloughDepot {
 
         /** Marks the crossings that can be come to along streets left to be driven. */
         private void reachFrom(int start) {
-            for (int crossing = 0; crossing < MOST_CROSSINGS; crossing++) {
+            for (int crossing = 0; crossing < town.crossings; crossing++) {
                 reached[crossing] = false;
             }
             reached[start] = true;
@@ -1447,9 +1448,6 @@ public final class PloughDepot {
         private void learnLeast() {
             if (leastKnown || odds > MOST_ODD) {
                 return;
-            }
-            for (int i = 0; i < odds; i++) {
-                ways.learnTo(odd[i]);
             }
             least[0] = 0;
             for (int bits = 1; bits < 1 << odds; bits++) {
