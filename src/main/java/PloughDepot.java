@@ -196,7 +196,7 @@ public final class PloughDepot {
     }
 
     public int copies(int i, int j, int n) {
-        answer(0);
+        status = 0;
         int copied = 0;
         for (int gauge = 0; gauge < gauges.number; gauge++) {
             int why = gauges.whyNotCopied(gauge, i, gauge, j, n);

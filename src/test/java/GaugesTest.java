@@ -53,7 +53,9 @@ public final class GaugesTest {
         check.due("reading(0, 199, 8)", x.reading(0, 199, 8), 1);
         check.due("read(0, 199)", x.read(0, 199), 10);
         check.due("read(0, 200)", x.read(0, 200), PloughDepot.INDEX);
+        x.reading(0, 0, 8);
         check.due("row(0, 200) again", x.row(0, 200), 1);
+        check.due("read(0, 0): all are 0", x.read(0, 0), 0);
         check.due("read(0, 199): all are 0", x.read(0, 199), 0);
         x.undo();
         check.due("read(0, 199): undone", x.read(0, 199), 10);

@@ -20,6 +20,7 @@ public final class MapTest {
 
     private static void newObject() {
         PloughDepot x = new PloughDepot();
+        check.due("new: status(), ahead of all calls", x.status(), 0);
         for (int what = 0; what < 4; what++) check.due("new: count(" + what + ")", x.count(what), 0);
         for (int kind = 0; kind < 5; kind++) check.due("new: findings(" + kind + ")", x.findings(kind), 0);
         for (int what = 0; what < 7; what++) check.due("new: length(" + what + ")", x.length(what), 0);
@@ -179,6 +180,8 @@ public final class MapTest {
         check.due("way(0, 2)", x.way(0, 2), 20);
         x.undo();
         check.due("way(2, 0): it is undone", x.way(2, 0), 20);
+        PloughDepot y = Towns.of(4, new int[] {0, 3, 10}, new int[] {0, 1, 1}, new int[] {1, 3, 1}, new int[] {3, 2, 1});
+        check.due("way(2, 0): by crossings that are near, not by the first that is seen", y.way(2, 0), 3);
     }
 
     private static void wayTakesLeastCrossingThenLeastStreet() {

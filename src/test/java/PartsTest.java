@@ -380,6 +380,11 @@ public final class PartsTest {
         check.due("status()", x.status(), 0);
         check.due("sign(MAX)", x.sign(Integer.MAX_VALUE), PloughDepot.NONE);
         check.due("sign(MIN)", x.sign(Integer.MIN_VALUE), PloughDepot.NONE);
+        PloughDepot two = ring(3);
+        two.plough(0, 4);
+        two.plough(1, 100);
+        two.split();
+        check.holds("the first letters", textOf(two).equals("+0+1A+2B"));
         PloughDepot none = new PloughDepot();
         check.due("sign(0): no text() yet", none.sign(0), PloughDepot.NONE);
         for (int i = 0; i < 6; i++) none.crossings(10);

@@ -19,6 +19,7 @@ public final class RoundTest {
         exchanges();
         nearestFirst();
         nearestTies();
+        manySides();
         noWay();
         twoThousand();
         at();
@@ -284,6 +285,10 @@ public final class RoundTest {
         x.round();
         partners("star", x, 1, 2, 3, 4, 5, 6, 7, 8, 9, 10, 11, 12, 13, 14, 15, 16);
         check.due("length(4)", x.length(4), 0);
+        x = star(59);
+        check.due("round(): 60 are odd", x.round(), 2 * 59);
+        check.due("length(5)", x.length(5), 30);
+        check.due("partner(59)", x.partner(59), 58);
         // (2, 3) stands apart from (4, 5): only the second pair behind it can be exchanged with the first
         x = comb(0, 1, 0, 0, 1, 0, 0, 0, 0, 0, 0, 0, 0, 0, 0, 0);
         x.round();
@@ -341,6 +346,18 @@ public final class RoundTest {
         x.round();
         drives("least street", x, 0, 0, 2, 1, 0);
         clears("least street", x, 1, 0, 1, 1, 0);
+    }
+
+    private static void manySides() {
+        PloughDepot x = Towns.of(2);
+        for (int i = 0; i < 150; i++) {
+            x.street(0, 1, 1, i == 0);
+            x.sides(i, 2);
+        }
+        check.due("round(): 300 sides", x.round(), 300);
+        check.due("length(2)", x.length(2), 300);
+        check.due("at(2, 0): the one-way street once more", x.at(2, 0), 0);
+        check.due("at(299, 0)", x.at(299, 0), 149);
     }
 
     private static void noWay() {
