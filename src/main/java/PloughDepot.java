@@ -30,7 +30,8 @@ public final class PloughDepot {
     private final Table partsDraft = new Table(MOST_PLOUGHS, Plough.COLUMNS);
     private final Ways ways = new Ways(town);
     private final RoundMaker maker = new RoundMaker(town, ways);
-    private final StringBuilder text = new StringBuilder();
+    private final char[] signs = new char[MOST_SIGNS];
+    private int signCount = 0;
     /** One number in an array, so that the bodies of all kinds of ploughs can add to it. */
     private final int[] trace = new int[1];
     private final int[] findings = new int[FINDING_KINDS];
@@ -428,25 +429,24 @@ public final class PloughDepot {
     }
 
     public int text() {
-        text.setLength(0);
+        signCount = 0;
         for (int drive = 0; drive < round.drives.rows; drive++) {
-            int fitted = text.length();
-            text.append(round.drives.get(drive, Round.CLEARS) == 1 ? '+' : '-');
-            text.append(round.drives.get(drive, Round.STREET));
+            int street = round.drives.get(drive, Round.STREET);
             int ended = ploughEndingAt(drive);
-            if (ended != NONE) {
-                text.append((char) ('A' + ended));
-            }
-            if (text.length() > MOST_SIGNS) {
-                text.setLength(fitted);
+            if (signCount + 1 + digitsOf(street) + (ended == NONE ? 0 : 1) > MOST_SIGNS) {
                 break;
             }
+            putSign(round.drives.get(drive, Round.CLEARS) == 1 ? '+' : '-');
+            putNumber(street);
+            if (ended != NONE) {
+                putSign('A' + ended);
+            }
         }
-        return answer(text.length());
+        return answer(signCount);
     }
 
     public int sign(int i) {
-        return i >= 0 && i < text.length() ? text.charAt(i) : NONE;
+        return i >= 0 && i < signCount && i < signs.length ? signs[i] : NONE;
     }
 
     // ---- 5 findings, refusals, changes
@@ -721,6 +721,28 @@ public final class PloughDepot {
         }
         town.clearSide(street);
         return passes;
+    }
+
+    private static int digitsOf(int street) {
+        return street < 10 ? 1 : street < 100 ? 2 : 3;
+    }
+
+    private void putNumber(int street) {
+        int digits = digitsOf(street);
+        if (digits > 2) {
+            putSign('0' + street / 100 % 10);
+        }
+        if (digits > 1) {
+            putSign('0' + street / 10 % 10);
+        }
+        putSign('0' + street % 10);
+    }
+
+    private void putSign(int sign) {
+        if (signCount >= 0 && signCount < signs.length) {
+            signs[signCount] = (char) sign;
+            signCount++;
+        }
     }
 
     private int ploughEndingAt(int drive) {

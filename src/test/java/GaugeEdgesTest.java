@@ -35,6 +35,7 @@ public final class GaugeEdgesTest {
         snowByAnOpenStreet();
         snowOfSeveralGauges();
         snowAsAnInt();
+        snowByFloatsInOrder();
         driftIsHundredThousandAtMost();
         guessedKeepsItsDrift();
         meltOfZeroOrMore();
@@ -386,6 +387,7 @@ public final class GaugeEdgesTest {
         check.due("digest()", x.digest(), ahead);
         check.due("undo()", x.undo(), 0);
         x.row(MISSING, 0);
+        check.due("told(0, 9)", x.told(0, 9), BAD);
         check.due("copies(0, 0, 0): all four", x.copies(0, 0, 0), 4);
         check.due("status()", x.status(), 0);
         check.due("copies(0, 0, 1): the empty one is refused", x.copies(0, 0, 1), 2);
@@ -398,7 +400,6 @@ public final class GaugeEdgesTest {
     }
 
     private static void copiesOfNone() {
-        Edges e = edges();
         int[][] outside = {{-1, 0, 0}, {0, -1, 0}, {0, 0, -1}, {0, 0, 6}, {1, 0, 5}, {0, 1, 5}, {6, 0, 0}, {0, 6, 0}, {MAX, MAX, MAX}, {MIN, MIN, MIN}, {1, 1, MAX}};
         for (int[] o : outside) {
             PloughDepot x = town();
@@ -413,7 +414,10 @@ public final class GaugeEdgesTest {
         Edges none = new Edges(check, () -> Towns.of(1), x -> x.crossings(1));
         none.tells("copies(0, 0, 1): no gauges", x -> x.copies(0, 0, 1), 0);
         none.tells("copies(-1, -1, -1): no gauges", x -> x.copies(-1, -1, -1), 0);
-        e.tells("read(0, 0)", x -> x.read(FLOATS, 0), 100);
+        PloughDepot x = new PloughDepot();
+        check.due("told(0, 0)", x.told(0, 0), BAD);
+        check.due("copies(0, 0, 1): no gauges", x.copies(0, 0, 1), 0);
+        check.due("status()", x.status(), 0);
     }
 
     // "SNOW of an HOUR (0 .. 199) .. BAD"
@@ -580,6 +584,21 @@ public final class GaugeEdgesTest {
                 check.due("snow(0)", x.snow(0), 1);
                 check.due("told(0, 0): " + n + " times " + d[0], x.told(0, 0), n * d[1]);
             }
+        }
+    }
+
+    // "s and w, floats": "by number", "(s / w) * 10": other kinds of numbers, another order, or 10 times first would tell others here
+    private static void snowByFloatsInOrder() {
+        int[][] due = {{204, 188, 195}, {160, 213, 299, 224}, {142, 236, 84, 153}, {84, 236, 142, 154}, {108, 109, 284, 166}, {16443, 25240, 13253, 18311}};
+        for (int[] d : due) {
+            PloughDepot x = Towns.of(2, new int[] {0, 1, 1});
+            for (int g = 0; g < d.length - 1; g++) {
+                x.gauge(0, true);
+                x.row(g, 1);
+                x.reading(g, 0, d[g]);
+            }
+            check.due("snow(0)", x.snow(0), 1);
+            check.due("told(0, 0) of " + java.util.Arrays.toString(d), x.told(0, 0), d[d.length - 1]);
         }
     }
 

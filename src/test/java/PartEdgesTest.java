@@ -438,6 +438,7 @@ public final class PartEdgesTest {
         int trace = y.trace();
         check.due("go(0, 1): empty", y.go(0, 1), 1);
         check.due("trace()", y.trace() - trace, 1);
+        partIs("one that clears, one that is empty", y, 0, 0, 2, 2, 2, 2, 9, 0, 0, 0);
         check.due("findings(4)", y.findings(4), 0);
         check.due("told(0, 0)", y.told(0, 0), 401);
         check.due("told(0, 2)", y.told(0, 2), 1);

@@ -17,10 +17,12 @@ public final class RoundEdgesTest {
         noJoining();
         noWayToJoin();
         joinsAsLongAsThereIsOne();
+        joinsByTheLeastWay();
         fourteenArePairedLeast();
         moreAreExchanged();
         exchangedOnlyIfLess();
         sixtyAreOdd();
+        thousandExchanges();
         noWayToTheNext();
         noWayBack();
         twoThousandDrives();
@@ -274,6 +276,32 @@ public final class RoundEdgesTest {
         check.due("at(58, 1)", x.at(58, 1), 58);
     }
 
+    // "the one of least LENGTH (the least first CROSSING of several, then the least last one)"
+    private static void joinsByTheLeastWay() {
+        // 3 - 4 is to be joined with 0 - 1: by 1 - 3 (2), 0 - 4 (3) or 0 - 3 (4)
+        PloughDepot x = Towns.of(5, new int[] {3, 4, 1}, new int[] {0, 1, 1}, new int[] {1, 3, 5}, new int[] {0, 4, 5}, new int[] {0, 3, 5}, new int[] {1, 4, 4});
+        for (int s = 2; s < 6; s++) x.sides(s, 0);
+        joinedBy("1 to 4 is less", x, 5);
+        x.shut(5, true);
+        joinedBy("all are as long: from 0, to 3", x, 4);
+        x.shut(4, true);
+        joinedBy("from 0, to 4", x, 3);
+        x.shut(3, true);
+        joinedBy("from 1", x, 2);
+        x.shut(2, true);
+        check.due("round(): none is left", x.round(), NO);
+        check.due("at(1, 0): the round that was", x.at(1, 0), 2);
+    }
+
+    /** Each round goes out to the joined street and back by the same way: street is driven twice, and the others that could join are not. */
+    private static void joinedBy(String what, PloughDepot x, int street) {
+        check.due(what + ": round()", x.round(), 6);
+        check.due(what + ": length(3)", x.length(3), 1);
+        int[] driven = new int[6];
+        for (int i = 0; i < 6; i++) driven[x.at(i, 0)]++;
+        for (int s = 0; s < 6; s++) check.due(what + ": drives of street " + s, driven[s], s < 2 || s == street ? 2 : 0);
+    }
+
     /**
      * A ring 1 .. 6 with lengths 3 and 2 by turns, and leaves from 7 on, each with a long or a short street to the depot, so that
      * all but the depot are odd: 1 with 2, 3 with 4, 5 with 6 can not be bettered by an exchange, but 2 with 3, 4 with 5, 6 with 1 are less.
@@ -304,6 +332,8 @@ public final class RoundEdgesTest {
         check.due("round() of 12", x.round() > 0 ? 1 : 0, 1);
         partners("twelve", x, 1, 6, 2, 3, 4, 5, 7, 8, 9, 10, 11, 12);
         x = hexagon(8);
+        check.due("least: the ring", x.least((1 << 6) - 1), 6);
+        check.due("least: the ring and the leaves", x.least((1 << 14) - 1), 6 + 8);
         check.due("odd(13)", x.odd(13), 14);
         check.due("odd(14)", x.odd(14), NONE);
         x.round();
@@ -355,6 +385,34 @@ public final class RoundEdgesTest {
         check.due("round()", x.round(), 118);
         sums("sixty", x, 118, 1180000, 30 + 58, 0, 0, 30, 1);
         for (int c = 0; c < 60; c++) check.due("partner(" + c + ")", x.partner(c), c ^ 1);
+    }
+
+    // "as long as there are such, but 1000 times at most"
+    private static void thousandExchanges() {
+        exchanges(3, 141, 999);
+        exchanges(9, 71, 1000);
+        // these would go on for 1 and for 2 more
+        exchanges(3, 281, 1000);
+        exchanges(0, ManyExchanges.length(0), 1000);
+    }
+
+    private static void exchanges(int street, int length, int due) {
+        PloughDepot x = Towns.of(60);
+        SlowDepot slow = new SlowDepot();
+        for (int i = 0; i < 3; i++) slow.crossings(20);
+        int[] sides = ManyExchanges.sides();
+        for (int s = 0; s < sides.length; s++) {
+            int a = ManyExchanges.a(s), b = ManyExchanges.b(s), l = s == street ? length : ManyExchanges.length(s);
+            check.due("street " + s, x.street(a, b, l, false), slow.street(a, b, l, false));
+            if (sides[s] == 2) check.due("sides " + s, x.sides(s, 2), slow.sides(s, 2));
+        }
+        check.due("odd(59)", x.odd(59), 59);
+        check.due("round()", x.round(), slow.round());
+        check.due("length(4) with " + length + " of street " + street, x.length(4), due);
+        check.due("length(5)", x.length(5), 30);
+        check.due("length(1)", x.length(1), slow.length(1));
+        for (int c = 0; c < 60; c++) check.due("partner(" + c + ")", x.partner(c), slow.partner(c));
+        check.due("digest()", x.digest(), slow.digest());
     }
 
     // (B) "(No WAY: NO.)": to a street that must be cleared
