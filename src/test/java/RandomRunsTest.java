@@ -27,6 +27,9 @@ public final class RandomRunsTest {
         for (int seed = 0; seed < 60; seed++) {
             new RandomRunsTest("large", seed).town(60, 100 + seed % 50, 8, seed % 4 == 0 ? 5 : 0, 10000);
         }
+        for (int seed = 0; seed < 40; seed++) {
+            new RandomRunsTest("full", seed).fullTown(seed % 2 == 0 ? 0 : 8);
+        }
         for (int seed = 0; seed < 6; seed++) {
             new RandomRunsTest("long ways", seed).longWays();
         }
@@ -105,6 +108,38 @@ public final class RandomRunsTest {
                 due("reading(" + g + ", " + h + ", " + v + ")", quick.reading(g, h, v), slow.reading(g, h, v));
             }
         }
+    }
+
+    /** As many of all as there may be, so that one more is refused. */
+    private void fullTown(int oneWays) {
+        for (int i = 0; i < 3; i++) {
+            due("crossings(20)", quick.crossings(20), slow.crossings(20));
+        }
+        while (slow.now.streets.size() < 150) {
+            int i = slow.now.streets.size();
+            int a = i < 59 ? i + 1 : random.nextInt(60), b = i < 59 ? random.nextInt(i + 1) : (a + 1 + random.nextInt(59)) % 60;
+            int length = chance(10) ? 10000 : 1 + random.nextInt(300);
+            boolean oneWay = i >= 59 && chance(oneWays);
+            due("street(" + a + ", " + b + ", " + length + ", " + oneWay + ")", quick.street(a, b, length, oneWay), slow.street(a, b, length, oneWay));
+        }
+        for (int g = 0; g < 20; g++) {
+            int c = random.nextInt(60);
+            boolean shorts = chance(50);
+            due("gauge(" + c + ", " + shorts + ")", quick.gauge(c, shorts), slow.gauge(c, shorts));
+            due("row(" + g + ", 200)", quick.row(g, 200), slow.row(g, 200));
+        }
+        for (int p = 0; p < 12; p++) {
+            int kind = p % 4, minutes = p == 11 ? 10000 : random.nextInt(200);
+            due("plough(" + kind + ", " + minutes + ")", quick.plough(kind, minutes), slow.plough(kind, minutes));
+        }
+        while (calls < MOST_CALLS - 50) {
+            if (chance(5)) {
+                mapCall(oneWays, 10000);
+            } else {
+                otherCall();
+            }
+        }
+        due("digest()", quick.digest(), slow.digest());
     }
 
     /** A ring of streets driven one way, and more and more streets beside its first one: up to above 2000 drives. */
