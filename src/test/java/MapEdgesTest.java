@@ -402,6 +402,10 @@ public final class MapEdgesTest {
         for (int i = 0; i < 4; i++) check.due("wayAt(0, 4, " + i + ")", x.wayAt(0, 4, i), due[i]);
         int[] back = {1, 0, NONE};
         for (int i = 0; i < 3; i++) check.due("wayAt(4, 0, " + i + ")", x.wayAt(4, 0, i), back[i]);
+        // a street from 2 to 0 would do by its length, and 0 is less than 3, but it is none at 1
+        PloughDepot y = Towns.of(4, new int[] {2, 0, 2}, new int[] {1, 3, 1}, new int[] {3, 0, 1});
+        check.due("wayAt(1, 0, 0): a street at 1", y.wayAt(1, 0, 0), 1);
+        check.due("wayAt(1, 0, 1)", y.wayAt(1, 0, 1), 2);
         x.shut(4, true);
         int[] byThree = {5, 2, 3, NONE};
         for (int i = 0; i < 4; i++) check.due("wayAt(0, 4, " + i + "), 1 - 2 is shut", x.wayAt(0, 4, i), byThree[i]);

@@ -21,7 +21,9 @@ public final class RoundEdgesTest {
         fourteenArePairedLeast();
         moreAreExchanged();
         exchangedOnlyIfLess();
+        leastPartnersOfSeveral();
         sixtyAreOdd();
+        mostStreets();
         thousandExchanges();
         noWayToTheNext();
         noWayBack();
@@ -369,6 +371,34 @@ public final class RoundEdgesTest {
         x.round();
         check.due("length(4): all are as long", x.length(4), 0);
         partners("as long", x, 1, 2, 3, 4, 5, 6, 7, 8, 9, 10, 11, 12, 13, 14, 15, 16);
+    }
+
+    // "of several such: that in which the least CROSSING has the least partner, then the least one of those left, and on"
+    private static void leastPartnersOfSeveral() {
+        // the depot is on the ways of all others, so that all pairs are as long together
+        for (int n = 3; n <= 13; n += 2) {
+            PloughDepot x = star(n);
+            check.due("round() of " + (n + 1), x.round(), 2 * n);
+            check.due("length(5)", x.length(5), (n + 1) / 2);
+            for (int c = 0; c <= n; c++) check.due("partner(" + c + ") of " + (n + 1), x.partner(c), c ^ 1);
+        }
+    }
+
+    // the most STREETS
+    private static void mostStreets() {
+        PloughDepot x = Towns.of(2);
+        for (int s = 0; s < 150; s++) x.street(s % 2, 1 - s % 2, 1, false);
+        check.due("round() by (A)", x.round(), 150);
+        for (int i = 0; i < 150; i += 149) check.due("at(" + i + ", 0)", x.at(i, 0), i);
+        sums("by (A)", x, 150, 150, 150, 0, 0, 0, 1);
+        x.oneWay(149, true);
+        check.due("round() by (B)", x.round(), 150);
+        for (int i = 0; i < 150; i += 149) check.due("at(" + i + ", 0)", x.at(i, 0), i);
+        sums("by (B)", x, 150, 150, 150, 0, 0, 0, 2);
+        x.sides(149, 2);
+        check.due("round(): a side more", x.round(), 152);
+        check.due("at(151, 0)", x.at(151, 0), 149);
+        check.due("length(2)", x.length(2), 151);
     }
 
     // the most ODD CROSSINGS
